@@ -35,7 +35,7 @@ public final class PrisonShops {
     private static final int[] KIND_ABOVE = {-1, 0, 1, 2, 0, 4};
     private static final int[] LEAST_AMOUNT = {0, 0, 0, 0, 0, 1};
     private static final int[] MOST_AMOUNT = {0, 0, 3, 3, 9999, 9999};
-    private static final int[] MOST_DATE = {0, 0, 0, 0, 0, LAST_DAY};
+    private static final int[] MOST_DATE = {0, 0, 0, 0, 0, 999};
 
     private final State now = new State();
     private final State image = new State();
@@ -173,7 +173,7 @@ public final class PrisonShops {
         }
         filling.find(now);
         switch (what) {
-            case 0: return filling.count();
+            case 0: return filling.placed();
             case 1: return filling.turns();
             default: return filling.shopOf(what - 2);
         }
@@ -1173,7 +1173,7 @@ public final class PrisonShops {
         private int bestCount = 0;
         private int bestTurns = 0;
 
-        int count() {
+        int placed() {
             return bestCount;
         }
 
@@ -1236,15 +1236,15 @@ public final class PrisonShops {
             sorted[place] = v;
         }
 
-        /** Tries all ways for this HAND and those behind it; no HAND is deeper than MOST_HANDS. */
+        /** Tries all ways for this HAND and those behind it: no deeper than there are HANDS. */
         private void place(int hand, int count, int sum) {
             if (!canBeBetter(hand, count, sum)) {
                 return;
             }
-            if (hand >= hands) {
+            if (hand < 0 || hand >= hands || hand >= tried.length) {
                 bestCount = count;
                 bestTurns = sum;
-                System.arraycopy(tried, 0, best, 0, hands);
+                System.arraycopy(tried, 0, best, 0, tried.length);
                 return;
             }
             for (int shop = 0; shop < MOST_SHOPS; shop++) {
@@ -1262,16 +1262,23 @@ public final class PrisonShops {
         }
 
         private boolean fits(int hand, int shop) {
+            if (hand < 0 || hand >= MOST_HANDS || shop < 0 || shop >= MOST_SHOPS) {
+                return false;
+            }
             return (choices[hand] >> shop & 1) == 1 && room[shop] > 0 && (members[shop] & bars[hand]) == 0;
         }
 
         /** What comes first stays ahead of what is only as good, as it has the lesser SHOPS. */
         private boolean canBeBetter(int hand, int count, int sum) {
+            if (hand < 0 || hand >= WIDTH) {
+                return false;
+            }
             int most = count + Math.min(able[hand], room[0] + room[1] + room[2]);
-            if (most != bestCount) {
+            int missing = bestCount - count;
+            if (most != bestCount || missing < 0 || missing >= WIDTH) {
                 return most > bestCount;
             }
-            return sum + leastTurns[hand * WIDTH + bestCount - count] < bestTurns;
+            return sum + leastTurns[hand * WIDTH + missing] < bestTurns;
         }
     }
 
