@@ -19,6 +19,7 @@ public final class CountsPromisesTest {
         promise46Days();
         promise47Keep();
         promise48Back();
+        promise48ComesAnew();
         promise48LeavesTheRest();
         promise49Count();
         Due.end();
@@ -54,6 +55,12 @@ public final class CountsPromisesTest {
         x.seed(1);
         int[] notFree = {0, 2, 3, 4};
         Due.is("39: not the free", x.search(1), 1 << notFree[39022 % 4]);
+        PrisonShops y = new PrisonShops();
+        y.hand(0, 0, 1);
+        y.hand(0, 0, 9);
+        y.run(2);
+        Due.is("39: nor hand 0, if it is free", y.search(2), 2);
+        Due.is("39: that is one free", y.count(2), 1);
     }
 
     private static void promise39All() {
@@ -87,10 +94,12 @@ public final class CountsPromisesTest {
         Due.is("40: 24", x.sheet(3, 2, 24), 24);
         Due.is("40: all 0", x.grow(3, 23, 0), 0);
         x.mark(3, 23, 9);
+        x.mark(3, 0, 9);
         Due.is("40: none", x.sheet(3, 1, 0), 0);
         Due.is("40: no place", x.mark(3, 0, 1), INDEX);
         x.sheet(3, 2, 24);
         Due.is("40: all 0 again", x.grow(3, 23, 0), 0);
+        Due.is("40: and the first place", x.grow(3, 0, 0), 0);
         Due.is("40: missing, n below", x.sheet(3, -1, -7), 0);
         Due.is("40: missing, n above", x.sheet(3, -1, 99), 0);
         Due.is("40: it is", x.mark(3, 0, 1), NOTHING);
@@ -275,6 +284,10 @@ public final class CountsPromisesTest {
         Due.is("46: the first", x.check(2), 1);
         told(x, 6, 6, 12, 13);
         Due.is("46: the last", x.check(2), 4);
+        told(x, 6, 6, 13, 12);
+        Due.is("46: the last but one", x.check(2), 3);
+        told(x, 6, 6, 12, 12, 18, 18, 25, 24);
+        Due.is("46: the seventh", x.check(4), 7);
         x.rate(0, 50);
         x.run(5);
         told(x, 6, 6);
@@ -376,6 +389,50 @@ public final class CountsPromisesTest {
         Due.is("48: are not counted", x.earn(0), 1);
     }
 
+    /** What comes behind an image that came back is as new, whatever stood there. */
+    private static void promise48ComesAnew() {
+        PrisonShops x = new PrisonShops();
+        x.keep();
+        x.shop(1, 3, 0);
+        x.hand(0, 0, 40);
+        x.put(0, 0);
+        x.be(0, 3, 5);
+        x.be(0, 9, 30);
+        x.thing(1, 0, 0, 0);
+        x.bell(0, 0);
+        x.lock(0, 4);
+        x.run(12);
+        x.pay(0);
+        x.run(1);
+        x.hand(0, 0, 40);
+        x.bar(0, 1, 1);
+        Due.text(x, 0, "days w");
+        x.earn(0);
+        x.lose(0, 1);
+        x.appeal(1);
+        x.back();
+        x.shop(2, 2, 2);
+        x.hand(1, 1, 41);
+        x.hand(1, 1, 41);
+        x.thing(1, 0, 0, 0);
+        int[] shop = {2, 2, 2, 5, 0, 0, 0, 0, 1, 0, 0};
+        for (int what = 0; what < shop.length; what++) {
+            Due.is("48: new has(0, " + what + ")", x.has(0, what), shop[what]);
+        }
+        int[] hand = {1, 1, 41, 0, 0, 0, 0, 0, NONE, NONE, 0, 0};
+        for (int what = 0; what < hand.length; what++) {
+            Due.is("48: new is(0, " + what + ")", x.is(0, what), hand[what]);
+        }
+        Due.is("48: not barred", x.bar(0, 1, 0), 0);
+        x.bell(0, 0);
+        Due.is("48: missed for the first time", x.told(0, 4), 0);
+        x.lose(0, 3);
+        x.lose(0, 3);
+        Due.is("48: a new event is not back", x.event(1, 3), NONE);
+        Due.text(x, 0, "days w+1");
+        Due.is("48: no turns counted", x.earn(0), 1);
+    }
+
     private static void promise48LeavesTheRest() {
         PrisonShops x = new PrisonShops();
         x.keep();
@@ -394,7 +451,7 @@ public final class CountsPromisesTest {
         PrisonShops x = new PrisonShops();
         x.shop(2, 3, 0);
         x.shop(2, 3, 0);
-        for (int i = 0; i < 4; i++) {
+        for (int i = 0; i < 5; i++) {
             x.hand(0, 0, i == 3 ? 1 : 90);
         }
         x.put(0, 0);
@@ -418,7 +475,7 @@ public final class CountsPromisesTest {
         x.feed(0, 0, 0);
         x.trim(5);
         x.seed(44);
-        int[] due = {2, 4, 1, 2, 7, 1, 1, 2, 1, 5, 2, 44, 2, 1};
+        int[] due = {2, 5, 1, 2, 7, 1, 1, 2, 1, 5, 2, 44, 2, 1};
         for (int what = 0; what < due.length; what++) {
             Due.is("49: count(" + what + ")", x.count(what), due[what]);
         }

@@ -9,6 +9,7 @@ public final class DaysPromisesTest {
         promise26Text();
         promise26Faults();
         promise26Nesting();
+        promise26Anew();
         promise27Of();
         promise28Why();
         promise29Rules();
@@ -87,6 +88,29 @@ public final class DaysPromisesTest {
         Due.is("26: twelve", x.count(6), 12);
     }
 
+    /** What was read ahead, with a FAULT or without, is of no matter. */
+    private static void promise26Anew() {
+        PrisonShops x = new PrisonShops();
+        Due.is("26: ends too soon", Due.text(x, 0, "pay 5-"), -106);
+        Due.is("26: text 0", Due.text(x, 0, "pay 7"), 0);
+        Due.is("26: only that", x.rules(0, 0, 0, 0), 7);
+        Due.is("26: open within others", Due.text(x, 0, "pay !(!(!(!(!(!(!(!("), -120);
+        Due.is("26: text 1", Due.text(x, 0, "pay !!!!!!!!((((((((8))))))))"), 1);
+        Due.is("26: true", x.rules(0, 0, 0, 0), 1);
+        StringBuilder many = new StringBuilder("pay 1");
+        while (many.length() < 95) {
+            many.append("+1");
+        }
+        Due.is("26: text 2", Due.text(x, 0, many.toString()), 2);
+        Due.is("26: 46 of them", x.rules(0, 0, 0, 0), 46);
+        Due.is("26: its parts", x.of(2, 2), 46);
+        Due.is("26: text 3", Due.text(x, 0, many.toString()), 3);
+        Due.is("26: 46 of them again", x.rules(0, 0, 0, 0), 46);
+        Due.is("26: its parts again", x.of(3, 2), 46);
+        Due.is("26: 96 bytes", Due.text(x, 0, many.toString().replace("pay ", "pay !")), 4);
+        Due.is("26: one less true", x.rules(0, 0, 0, 0), 45);
+    }
+
     private static void fault(String text, int place) {
         PrisonShops x = new PrisonShops();
         Due.is("26: \"" + text + "\"", Due.text(x, 0, text), place < 0 ? 0 : -100 - place);
@@ -99,6 +123,9 @@ public final class DaysPromisesTest {
         fault("pay", 3);
         fault("pay  ", 5);
         fault("pays n", 0);
+        fault("payz", 0);
+        fault("apay", 0);
+        fault("paya n", 0);
         fault("  pa n", 2);
         fault("5", 0);
         fault("pay n +", 7);
@@ -364,6 +391,7 @@ public final class DaysPromisesTest {
         Due.is("32: what was counted is gone", x.earn(0), 0);
         x.run(2);
         Due.is("32: two", x.earn(0), 1);
+        Due.is("32: of one day, too, an event", x.count(7), 2);
         Due.text(x, 0, "days 100");
         Due.is("32: 99 at most", x.earn(0), 99);
         Due.is("32: no hand", x.earn(1), BAD);
