@@ -646,11 +646,8 @@ public final class PrisonShops {
             if (rows >= most) {
                 return NONE;
             }
+            // all cells behind the rows are 0, as a table only loses rows by becoming as another one that never had them
             rows++;
-            // an image that came back may have left an older row here
-            for (int field = 0; field < fields; field++) {
-                set(rows - 1, field, 0);
-            }
             return rows - 1;
         }
 
