@@ -686,7 +686,7 @@ public final class PrisonShops {
         }
 
         int top() {
-            return at(size - 1);
+            return size > 0 && size <= cells.length ? cells[size - 1] : 0;
         }
 
         int pop() {
@@ -1218,7 +1218,7 @@ public final class PrisonShops {
                 }
                 able[hand] = n;
                 int sum = 0;
-                for (int many = 0; many <= n; many++) {
+                for (int many = 0; many <= n && many < sorted.length; many++) {
                     leastTurns[hand * WIDTH + many] = sum;
                     sum += sorted[many];
                 }
@@ -1226,6 +1226,9 @@ public final class PrisonShops {
         }
 
         private void sortIn(int v, int n) {
+            if (n < 0 || n >= sorted.length) {
+                return;
+            }
             int place = n;
             for (; place > 0 && sorted[place - 1] > v; place--) {
                 sorted[place] = sorted[place - 1];

@@ -1,10 +1,29 @@
+import java.util.function.IntUnaryOperator;
+
 /** What the tests share: it prints every answer that is not the one that is due. */
 final class Due {
     private static final int MOST_PRINTED = 40;
+    private static final long MOST_MILLISECONDS = 300_000;
     private static int asked = 0;
     private static int wrong = 0;
 
+    static {
+        Thread watch = new Thread(Due::failIfItDoesNotEnd);
+        watch.setDaemon(true);
+        watch.start();
+    }
+
     private Due() {
+    }
+
+    private static void failIfItDoesNotEnd() {
+        try {
+            Thread.sleep(MOST_MILLISECONDS);
+        } catch (InterruptedException e) {
+            return;
+        }
+        System.out.println("a call does not end");
+        Runtime.getRuntime().halt(1);
     }
 
     static void is(String call, long got, long want) {
@@ -19,6 +38,13 @@ final class Due {
 
     static void isTrue(String what, boolean it) {
         is(what, it ? 1 : 0, 1);
+    }
+
+    /** All that a call answers for 0, 1, 2 and so on. */
+    static void row(String call, IntUnaryOperator answer, int... due) {
+        for (int what = 0; what < due.length; what++) {
+            is(call + " for " + what, answer.applyAsInt(what), due[what]);
+        }
     }
 
     /** Ends the test, with exit code 1 if an answer was not as due. */

@@ -22,9 +22,25 @@ public final class FillingTest {
         for (int i = 0; i < hands; i++) {
             x.hand(random.nextInt(4), random.nextInt(4), 3 + random.nextInt(30));
         }
+        x.keep();
+        compare(x, shops, hands);
+        for (int round = 0; round < 2; round++) {
+            if (round == 1 && random.nextBoolean()) {
+                x.back();
+            }
+            change(random, x, shops, x.count(1));
+            if (x.count(1) < mostHands && random.nextBoolean()) {
+                x.hand(random.nextInt(4), random.nextInt(4), 3 + random.nextInt(30));
+            }
+            compare(x, shops, x.count(1));
+        }
+    }
+
+    /** What THE FILLING asks for becomes another: nothing of the one ahead may stay. */
+    private static void change(Random random, PrisonShops x, int shops, int hands) {
         int bars = random.nextInt(12);
         for (int i = 0; i < bars && hands > 1; i++) {
-            x.bar(random.nextInt(hands), random.nextInt(hands), 1);
+            x.bar(random.nextInt(hands), random.nextInt(hands), random.nextInt(4) == 0 ? 0 : 1);
         }
         for (int i = random.nextInt(4); i > 0 && hands > 0 && shops > 0; i--) {
             x.put(random.nextInt(hands), random.nextInt(shops));
@@ -37,7 +53,6 @@ public final class FillingTest {
         if (shops > 0 && random.nextInt(6) == 0) {
             x.lock(random.nextInt(shops), 2);
         }
-        compare(x, shops, hands);
     }
 
     private static void compare(PrisonShops x, int shops, int hands) {
