@@ -1241,21 +1241,33 @@ public final class PrisonShops {
             if (!canBeBetter(hand, count, sum)) {
                 return;
             }
-            if (hand < 0 || hand >= hands || hand >= tried.length) {
+            if (hand < 0 || hand >= hands) {
                 bestCount = count;
                 bestTurns = sum;
                 System.arraycopy(tried, 0, best, 0, tried.length);
                 return;
             }
             for (int shop = 0; shop < MOST_SHOPS; shop++) {
-                if (fits(hand, shop)) {
-                    tried[hand] = shop;
-                    room[shop]--;
-                    members[shop] |= 1 << hand;
-                    place(hand + 1, count + 1, sum + turns[hand]);
-                    members[shop] &= ~(1 << hand);
-                    room[shop]++;
-                }
+                placeIn(hand, shop, count, sum);
+            }
+            leaveOut(hand, count, sum);
+        }
+
+        private void placeIn(int hand, int shop, int count, int sum) {
+            if (!fits(hand, shop)) {
+                return;
+            }
+            tried[hand] = shop;
+            room[shop]--;
+            members[shop] |= 1 << hand;
+            place(hand + 1, count + 1, sum + turns[hand]);
+            members[shop] &= ~(1 << hand);
+            room[shop]++;
+        }
+
+        private void leaveOut(int hand, int count, int sum) {
+            if (hand < 0 || hand >= tried.length) {
+                return;
             }
             tried[hand] = NONE;
             place(hand + 1, count, sum);

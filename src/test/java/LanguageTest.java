@@ -24,6 +24,7 @@ public final class LanguageTest {
             Due.isTrue("sign " + (int) source.charAt(i), source.charAt(i) < 128);
         }
         methodsAreShort(code);
+        onlyStaticMethodsCallThemselves(code);
         Due.end();
     }
 
@@ -59,5 +60,27 @@ public final class LanguageTest {
                 start = -1;
             }
         }
+    }
+
+    /** Rule 8: a private static method may call itself, other private methods only one another. */
+    private static void onlyStaticMethodsCallThemselves(String code) {
+        String[] lines = code.split("\n");
+        String name = "";
+        String end = "";
+        int methods = 0;
+        for (int i = 0; i < lines.length; i++) {
+            Matcher m = Pattern.compile("^( {4}| {8})([\\w\\[\\] ]+ )?(\\w+)\\([^()]*\\) \\{$").matcher(lines[i]);
+            if (m.matches()) {
+                methods++;
+                end = m.group(1) + "}";
+                name = m.group(2) != null && m.group(2).contains("static ") ? "" : m.group(3);
+            } else if (lines[i].equals(end)) {
+                name = "";
+            } else if (!name.isEmpty()) {
+                boolean itself = Pattern.compile("(?<![\\w.])(this\\.)?" + name + "\\(").matcher(lines[i]).find();
+                Due.isTrue(name + " calls itself in line " + (i + 1), !itself);
+            }
+        }
+        Due.isTrue("methods were found", methods > 100);
     }
 }
